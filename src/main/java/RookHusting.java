@@ -69,7 +69,6 @@ public final class RookHusting {
     private final Guesses guesses;
     private int keptImages;
     private boolean settled;
-    private boolean searched;
     private boolean plainKnown;
     private int plainVoters;
 
@@ -114,7 +113,10 @@ public final class RookHusting {
     }
 
     public int hundred() {
-        reader.readTape();
+        reader.begin();
+        for (int line = 0; line < MOST_BYTES && reader.hasMore(); line++) {
+            reader.readLine();
+        }
         if (reader.fault != 0) {
             return FAULTY;
         }
@@ -462,7 +464,8 @@ public final class RookHusting {
         if (!isTold()) {
             return NO_SUCH;
         }
-        searchPut();
+        settle();
+        search.searchFrom(now);
         return search.corn;
     }
 
@@ -470,7 +473,8 @@ public final class RookHusting {
         if (!isField(field)) {
             return NO_SUCH;
         }
-        searchPut();
+        settle();
+        search.searchFrom(now);
         return search.first[field];
     }
 
@@ -478,7 +482,8 @@ public final class RookHusting {
         if (!isTold()) {
             return NO_SUCH;
         }
-        searchPut();
+        settle();
+        search.searchFrom(now);
         return search.rows;
     }
 
@@ -486,7 +491,8 @@ public final class RookHusting {
         if (!isTold()) {
             return NO_SUCH;
         }
-        searchPut();
+        settle();
+        search.searchFrom(now);
         return search.men;
     }
 
@@ -888,7 +894,7 @@ public final class RookHusting {
 
     private void forget() {
         settled = false;
-        searched = false;
+        search.known = false;
         plainKnown = false;
     }
 
@@ -901,15 +907,6 @@ public final class RookHusting {
         state.acts.playOn(now, true);
         harvest.passDays(state.told, now, state.told.days);
         settled = true;
-    }
-
-    private void searchPut() {
-        if (searched) {
-            return;
-        }
-        settle();
-        search.searchFrom(now);
-        searched = true;
     }
 
     private void learnPlain() {
@@ -1086,9 +1083,17 @@ public final class RookHusting {
             if (at >= length) {
                 kind = TAPE_END;
             } else if (isLetter(bytes[at])) {
-                passWord();
+                kind = WORD;
+                while (at < length && isLetter(bytes[at])) {
+                    at++;
+                }
             } else if (isDigit(bytes[at])) {
-                passNumber();
+                kind = NUMBER;
+                number = 0;
+                while (at < length && isDigit(bytes[at])) {
+                    number = Math.min(HUGE, number * 10 + bytes[at] - '0');
+                    at++;
+                }
             } else {
                 kind = bytes[at] == ';' ? SIGN : OTHER;
                 at++;
@@ -1105,22 +1110,6 @@ public final class RookHusting {
                 }
             }
             return true;
-        }
-
-        private void passWord() {
-            kind = WORD;
-            while (at < length && isLetter(bytes[at])) {
-                at++;
-            }
-        }
-
-        private void passNumber() {
-            kind = NUMBER;
-            number = 0;
-            while (at < length && isDigit(bytes[at])) {
-                number = Math.min(HUGE, number * 10 + bytes[at] - '0');
-                at++;
-            }
         }
 
         private static boolean isBlank(byte sign) {
@@ -1147,18 +1136,18 @@ public final class RookHusting {
             this.tape = tape;
         }
 
-        void readTape() {
+        void begin() {
             draft.clear();
             fault = 0;
             place = NONE;
             tape.rewind();
-            for (int i = 0; i < MOST_BYTES && fault == 0 && tape.kind != TAPE_END; i++) {
-                readLine();
-                takeSign();
-            }
         }
 
-        private void readLine() {
+        boolean hasMore() {
+            return fault == 0 && tape.kind != TAPE_END;
+        }
+
+        void readLine() {
             if (draft.lines == 0) {
                 readHead();
             } else if (tape.isAtWord("field")) {
@@ -1172,6 +1161,7 @@ public final class RookHusting {
             } else {
                 blame(BAD_TOKEN);
             }
+            takeSign();
         }
 
         private void readHead() {
@@ -1200,8 +1190,8 @@ public final class RookHusting {
                 return;
             }
             tape.step();
-            int field = takeUnlike(draft.fields, 0);
-            int other = takeUnlike(draft.fields, 1 << field);
+            int field = takeNumber(0, draft.fields - 1, 0);
+            int other = takeNumber(0, draft.fields - 1, 1 << field);
             if (fault == 0) {
                 draft.addHedge(field, other);
             }
@@ -1237,7 +1227,7 @@ public final class RookHusting {
             int told = 0;
             // a sixth number is like one of five, so it is a FAULT and ends the ROW
             for (int i = 0; i <= MOST_MEN && fault == 0 && tape.kind == NUMBER; i++) {
-                int man = takeUnlike(draft.men, told);
+                int man = takeNumber(0, draft.men - 1, told);
                 if (fault == 0) {
                     draft.addWant(man);
                     told |= 1 << man;
@@ -1271,10 +1261,6 @@ public final class RookHusting {
         private int takeNamed(String word, int low, int high) {
             takeWord(word);
             return takeNumber(low, high, 0);
-        }
-
-        private int takeUnlike(int many, int told) {
-            return takeNumber(0, many - 1, told);
         }
 
         /** The number there, within its bounds and none of those told as bits; 0 behind a FAULT. */
@@ -1499,25 +1485,19 @@ public final class RookHusting {
             this.told = told;
         }
 
-        int hatsFor(int[] ahead, int set, int law, int man, int away) {
+        int hatsFor(int[] aheads, int set, int law, int man, int away) {
             int hats = 0;
             int others = Integer.bitCount(set) - 1;
+            int places = law == 3 ? 2 : 1;
             for (int voter = 0; voter < told.voters; voter++) {
-                int before = ahead[voter * MOST_MEN + man];
-                if (before != NOT_IN_ROW && !hasBit(away, voter)) {
-                    hats += told.hats[voter] * timesGiven(law, Integer.bitCount(before & set), others);
+                int ahead = aheads[voter * MOST_MEN + man];
+                if (ahead != NOT_IN_ROW && (away >> voter & 1) == 0) {
+                    int before = Integer.bitCount(ahead & set);
+                    int times = before < places ? 1 : 0;
+                    hats += told.hats[voter] * (law == 1 ? others - before : times);
                 }
             }
             return hats;
-        }
-
-        /** How many times a VOTER gives his hats to a man behind so many others of the set. */
-        private static int timesGiven(int law, int before, int others) {
-            if (law == 1) {
-                return others - before;
-            }
-            int places = law == 3 ? 2 : 1;
-            return before < places ? 1 : 0;
         }
 
         int winner(int[] ahead, int set, int law, int away) {
@@ -1802,7 +1782,7 @@ public final class RookHusting {
         private int leastFeared(int joined, int day) {
             int least = NONE;
             for (int field = 0; field < fields; field++) {
-                if (hasBit(joined, field)
+                if ((joined >> field & 1) == 1
                         && (least == NONE || fear[field * DAY_CELLS + day] < fear[least * DAY_CELLS + day])) {
                     least = field;
                 }
@@ -1862,6 +1842,8 @@ public final class RookHusting {
         int corn;
         int rows;
         int men;
+        /** Whether they are worked out for what is so now. */
+        boolean known;
         private final Hundred told;
         private final Scene trial;
         private final Harvest tried;
@@ -1873,11 +1855,15 @@ public final class RookHusting {
         }
 
         void searchFrom(Scene now) {
+            if (known) {
+                return;
+            }
             trial.copyFrom(now);
             corn = NONE;
             rows = 0;
             men = 0;
             fillFrom(0, 0);
+            known = true;
         }
 
         private void fillFrom(int field, int taken) {
