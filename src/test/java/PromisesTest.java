@@ -34,7 +34,7 @@ public final class PromisesTest {
         daySums();
         dayEdges();
         corners();
-        puts46();
+        rowsOfMen();
         lawsAndSpeech();
         gaps();
         seen();
@@ -63,6 +63,7 @@ public final class PromisesTest {
         }
     }
 
+    /** Promise 1. */
     private static void newObject() {
         RookHusting x = new RookHusting();
         due("NONE", RookHusting.NONE, -1);
@@ -75,6 +76,7 @@ public final class PromisesTest {
         due("new write(0,0,0)", x.write(0, 0, 0), -6);
     }
 
+    /** Promises 2, 3. */
     private static void tape() {
         RookHusting x = new RookHusting();
         due("end(0) of none", x.end(0), 0);
@@ -102,6 +104,7 @@ public final class PromisesTest {
         due("odds", x.count(2), 10);
     }
 
+    /** Promise 4. */
     private static void hundred() {
         RookHusting x = Check.told(THREE);
         due("the TAPE is empty", x.count(9), 0);
@@ -139,6 +142,7 @@ public final class PromisesTest {
         due("fault(1) of '" + text + "'", x.fault(1), place);
     }
 
+    /** Promises 4, 5. */
     private static void faultPlaces() {
         isFault("field corn 1", 1, 0);
         isFault(";", 1, 0);
@@ -182,6 +186,7 @@ public final class PromisesTest {
         isFault(HEAD + (char) 233, 1, 28);
     }
 
+    /** Promises 4, 5. */
     private static void faultsOfOnePlace() {
         String fields = "field corn 1 rooks 1;".repeat(5);
         isFault(HEAD + fields + "field corn 999", 3, 28 + 105);
@@ -209,6 +214,7 @@ public final class PromisesTest {
         due("no fault of the latest", x.fault(0), 0);
     }
 
+    /** Promises 6 to 10. */
     private static void whatIsTold() {
         RookHusting x = Check.told(THREE);
         all("field", new int[] {x.field(0, 0), x.field(0, 1), x.field(2, 0), x.field(2, 1)}, 50, 10, 20, 0);
@@ -222,6 +228,7 @@ public final class PromisesTest {
                 -1, -1, -1, -2, -2);
     }
 
+    /** Promises 11, 12. */
     private static void votesAndElects() {
         RookHusting x = Check.told(THREE);
         all("law 0", new int[] {x.votes(7, 0, 0), x.votes(7, 0, 1), x.votes(7, 0, 2), x.elects(7, 0)}, 3, 2, 2, 0);
@@ -236,6 +243,7 @@ public final class PromisesTest {
             x.elects(7, -1)}, -1, -1, -2, -2, -2, -2);
     }
 
+    /** Promise 12. */
     private static void lawTwoTakesTheLastOut() {
         // 0 has 2, 1 has 1, 2 has 1: 2 goes, then his hat goes to 1; 0 and 1 are alike, 1 goes
         RookHusting x = Check.told("hundred days 1 law 2 odds 0;" + "man frights 1 tires 1;".repeat(3)
@@ -250,6 +258,7 @@ public final class PromisesTest {
         all("without voters", new int[] {z.elects(7, 0), z.elects(6, 1), z.elects(7, 2), z.elects(4, 3)}, 0, 1, 0, 2);
     }
 
+    /** Promises 13 to 15. */
     private static void electedStandsWhere() {
         RookHusting x = Check.told(THREE);
         all("elected", new int[] {x.elected(0), x.elected(1), x.elected(2), x.elected(3), x.elected(-1)}, 0, 1, 2, -2, -2);
@@ -263,6 +272,7 @@ public final class PromisesTest {
         all("more FIELDS than MEN", new int[] {y.elected(0), y.elected(1), y.elected(2)}, 1, 0, -1);
     }
 
+    /** Promises 16 to 18. */
     private static void overBeatsRings() {
         RookHusting x = Check.told(THREE);
         all("over", new int[] {x.over(0, 1), x.over(1, 0), x.over(0, 2), x.over(2, 0), x.over(1, 2), x.over(2, 1)},
@@ -282,6 +292,7 @@ public final class PromisesTest {
         due("no man beats", Check.told(HEAD).beats(), -1);
     }
 
+    /** Promises 19 to 21. */
     private static void leastGainsPlain() {
         RookHusting x = Check.told(THREE);
         all("least", new int[] {x.least(0), x.least(1), x.least(2), x.least(3), x.least(-1)}, 0, 3, 5, -2, -2);
@@ -298,6 +309,7 @@ public final class PromisesTest {
         due("nobody to want", Check.told(HEAD + "voter hats 1;").plain(), 0);
     }
 
+    /** Promise 22. */
     private static void powers() {
         RookHusting x = Check.told(THREE);
         all("alike", new int[] {x.power(0, 0), x.power(0, 1), x.power(2, 0), x.power(2, 1)}, 1, 3, 1, 3);
@@ -311,6 +323,7 @@ public final class PromisesTest {
         all("seven", new int[] {w.power(6, 0), w.power(6, 1)}, 1, 7);
     }
 
+    /** Promises 34 to 37. */
     private static void lovedShunnedSwingsTired() {
         RookHusting x = Check.told(THREE);
         all("loved", new int[] {x.loved(0), x.loved(1), x.loved(2), x.loved(3), x.loved(-1)}, 3, 2, 2, -2, -2);
@@ -322,6 +335,7 @@ public final class PromisesTest {
         all("tired at once, beyond the last", new int[] {y.tired(0), y.tired(1)}, 0, 40);
     }
 
+    /** Promises 23 to 27. */
     private static void days() {
         RookHusting x = Check.told(THREE);
         int[][] fear = {{6, 4, 2, 0, 0}, {3, 3, 3, 3, 3}, {9, 4, 0, 0, 0}};
@@ -347,6 +361,7 @@ public final class PromisesTest {
         all("the last DAY", new int[] {x.eaten(0, 4), x.flies(0, 4), x.quiet(4), x.flown(4)}, -2, -2, -2, -2);
     }
 
+    /** Promises 28 to 33, 39 to 45. */
     private static void daySums() {
         RookHusting x = Check.told(THREE);
         all("all", new int[] {x.all(0), x.all(1), x.all(2), x.all(3), x.all(4), x.all(5), x.all(-1)},
@@ -367,6 +382,7 @@ public final class PromisesTest {
         all("richest", new int[] {x.richest(0), x.richest(4), x.richest(5), x.richest(-1)}, 0, 0, -2, -2);
     }
 
+    /** Promises 23 to 33, 38 to 45. */
     private static void dayEdges() {
         // nobody stands: all eat till nothing is left
         RookHusting x = Check.told("hundred days 3 law 0 odds 0; field corn 7 rooks 5; field corn 7 rooks 0; hedge 0 1;");
@@ -390,6 +406,7 @@ public final class PromisesTest {
         due("all fly", z.flown(0), 9);
     }
 
+    /** What a HUNDRED without FIELDS, MEN and VOTERS answers. */
     private static void corners() {
         RookHusting x = Check.told(BARE_HEAD);
         all("a HUNDRED of nothing", new int[] {x.beats(), x.rings(), x.plain(), x.elects(0, 3), x.swings(), x.guards()},
@@ -402,7 +419,8 @@ public final class PromisesTest {
                 0, 0, 0, -5, 0, 1);
     }
 
-    private static void puts46() {
+    /** Promises 46 to 49. */
+    private static void rowsOfMen() {
         RookHusting x = Check.told(ONE);
         all("one FIELD", new int[] {x.best(), x.put(0), x.ways(), x.fewest(), x.put(1), x.put(-1)}, 5, 1, 1, 1, -2, -2);
         // corn that no rook eats: every row does, and the least is of nobody
@@ -422,6 +440,7 @@ public final class PromisesTest {
         all("whoever is put now", new int[] {x.best(), x.put(0), x.stands(0)}, 10, 1, -1);
     }
 
+    /** Promises 50 to 52. */
     private static void lawsAndSpeech() {
         RookHusting x = Check.told("hundred days 2 law 0 odds 0; field corn 20 rooks 5;"
                 + "man frights 1 tires 0; man frights 5 tires 5; man frights 3 tires 0;"
@@ -444,6 +463,7 @@ public final class PromisesTest {
         due("of FIELD 1", y.speech(), 101);
     }
 
+    /** Promise 53. */
     private static void gaps() {
         RookHusting x = Check.told("hundred days 2 law 0 odds 0;"
                 + "field corn 50 rooks 10; field corn 0 rooks 0; field corn 0 rooks 0; man frights 6 tires 6;");
@@ -458,6 +478,7 @@ public final class PromisesTest {
         due("only one FIELD", Check.told(ONE).gap(), -1);
     }
 
+    /** Promises 54 to 56. */
     private static void seen() {
         // FIELD 0 has on DAY 1 4 rooks with 0 or 2, 0 with 1, 10 with nobody; on DAY 2 6 with 0, 10 with 2
         RookHusting x = Check.told("hundred days 2 law 0 odds 0; field corn 9 rooks 10; field corn 9 rooks 0; hedge 0 1;"
@@ -504,6 +525,7 @@ public final class PromisesTest {
         due("two that do not fit", x.may(2, 0), 0);
     }
 
+    /** Promises 57, 58. */
     private static void games() {
         // FIELD 0 alone: by speeches 2 DAYS of 9 rooks eat nothing; FIELD 1 gains nothing by them
         RookHusting x = Check.told("hundred days 3 law 0 odds 0; field corn 30 rooks 9; field corn 5 rooks 9;"
@@ -526,6 +548,7 @@ public final class PromisesTest {
         due("neither", Check.told(HEAD + "field corn 9 rooks 1; field corn 9 rooks 1;").rests(0, 1), 1);
     }
 
+    /** Promises 59, 60. */
     private static void chances() {
         RookHusting x = Check.told(ONE);
         // 3 are eaten on each DAY without WIND
@@ -559,6 +582,7 @@ public final class PromisesTest {
         due("no WIND eaten", z.all(1), 9);
     }
 
+    /** Promises 38, 61. */
     private static void actsOfPutting() {
         RookHusting x = Check.told(THREE);
         due("puts", x.puts(0, 2), 0);
@@ -583,6 +607,7 @@ public final class PromisesTest {
         due("30 again", x.puts(0, 1), -5);
     }
 
+    /** Promise 62. */
     private static void actsOfSpeaking() {
         RookHusting x = Check.told(THREE);
         due("speaks", x.speaks(0, 2), 6);
@@ -604,6 +629,7 @@ public final class PromisesTest {
         due("acts", x.count(7), 6);
     }
 
+    /** Promises 63, 64. */
     private static void takingBack() {
         RookHusting x = Check.told(THREE);
         due("nothing to take back", x.undo(), -5);
@@ -618,6 +644,7 @@ public final class PromisesTest {
         due("undo of none", x.undo(), -5);
     }
 
+    /** Promises 65, 66. */
     private static void draws() {
         RookHusting x = Check.told("hundred days 8 law 0 odds 5; field corn 20 rooks 4; field corn 4 rooks 4;");
         // draws from 0: 0 8 8 7 8 7 5 1, from 7: 4 6 8 4 1 5 4 0, from 13: 0 3 2 3 3 3 0 4
@@ -637,6 +664,7 @@ public final class PromisesTest {
         all("never WIND", new int[] {z.drawn(9, 0), z.drawn(9, 1), z.luck(9, 20, 0)}, 0, 0, 0);
     }
 
+    /** Promise 67. */
     private static void rates() {
         RookHusting x = Check.told(THREE);
         due("rate", x.rate(0, 40), 6);
@@ -652,6 +680,7 @@ public final class PromisesTest {
         due("taken back", x.rate(0, 5), 0);
     }
 
+    /** Promise 68. */
     private static void counts() {
         RookHusting x = Check.told(THREE);
         all("count", new int[] {x.count(0), x.count(1), x.count(2), x.count(3), x.count(4), x.count(5), x.count(6),
@@ -666,6 +695,7 @@ public final class PromisesTest {
         due("acts", x.count(7), 1);
     }
 
+    /** Promises 69, 70. */
     private static void images() {
         RookHusting x = Check.told(THREE);
         x.rate(1, 7);
@@ -697,6 +727,7 @@ public final class PromisesTest {
         due("there is none", y.beats(), -2);
     }
 
+    /** Promises 71, 72. */
     private static void slotRows() {
         RookHusting x = Check.told(HEAD + "field corn 0 rooks 4;");
         all("row", new int[] {x.row(0, 0, 60), x.row(3, 3, 0), x.row(4, 0, 1), x.row(-1, 0, 1), x.row(0, 4, 1),
@@ -720,6 +751,7 @@ public final class PromisesTest {
         due("all 0", x.may(0, 0), 0);
     }
 
+    /** Promise 73. */
     private static void pasting() {
         RookHusting x = Check.told(HEAD + "field corn 0 rooks 4; field corn 0 rooks 5;");
         x.row(0, 1, 6);
@@ -749,6 +781,7 @@ public final class PromisesTest {
         due("as they were", x.may(0, 0), 32);
     }
 
+    /** Promises 6 to 67 without a HUNDRED. */
     private static void withoutHundred() {
         RookHusting x = new RookHusting();
         x.row(0, 0, 0);
