@@ -265,83 +265,43 @@ public final class RookHusting {
     // ---- day by day ----
 
     public int fear(int field, int day) {
-        if (!isField(field) || !isDay(day)) {
-            return NO_SUCH;
-        }
-        settle();
-        return harvest.fear[field * DAY_CELLS + day];
+        return isField(field) && isDay(day) ? cellNow(harvest.fear, field, day) : NO_SUCH;
     }
 
     public int rooks(int field, int day) {
-        if (!isField(field) || !isDay(day)) {
-            return NO_SUCH;
-        }
-        settle();
-        return harvest.rooks[field * DAY_CELLS + day];
+        return isField(field) && isDay(day) ? cellNow(harvest.rooks, field, day) : NO_SUCH;
     }
 
     public int corn(int field, int day) {
-        if (!isField(field) || !isDay(day)) {
-            return NO_SUCH;
-        }
-        settle();
-        return harvest.corn[field * DAY_CELLS + day];
+        return isField(field) && isDay(day) ? cellNow(harvest.corn, field, day) : NO_SUCH;
     }
 
     public int eaten(int field, int day) {
-        if (!isField(field) || !isEatingDay(day)) {
-            return NO_SUCH;
-        }
-        settle();
-        return harvest.eaten[field * DAY_CELLS + day];
+        return isField(field) && isEatingDay(day) ? cellNow(harvest.eaten, field, day) : NO_SUCH;
     }
 
     public int flies(int field, int day) {
-        if (!isField(field) || !isEatingDay(day)) {
-            return NO_SUCH;
-        }
-        settle();
-        return harvest.goal[field * DAY_CELLS + day];
+        return isField(field) && isEatingDay(day) ? cellNow(harvest.goal, field, day) : NO_SUCH;
     }
 
     public int all(int day) {
-        if (!isDay(day)) {
-            return NO_SUCH;
-        }
-        settle();
-        return harvest.sumOf(harvest.corn, day);
+        return isDay(day) ? sumNow(harvest.corn, day) : NO_SUCH;
     }
 
     public int black(int day) {
-        if (!isDay(day)) {
-            return NO_SUCH;
-        }
-        settle();
-        return harvest.fieldOfMost(harvest.rooks, day);
+        return isDay(day) ? mostNow(harvest.rooks, day) : NO_SUCH;
     }
 
     public int richest(int day) {
-        if (!isDay(day)) {
-            return NO_SUCH;
-        }
-        settle();
-        return harvest.fieldOfMost(harvest.corn, day);
+        return isDay(day) ? mostNow(harvest.corn, day) : NO_SUCH;
     }
 
     public int shoulder(int field) {
-        if (!isField(field)) {
-            return NO_SUCH;
-        }
-        settle();
-        return harvest.firstZero(harvest.fear, field);
+        return isField(field) ? firstZeroNow(harvest.fear, field) : NO_SUCH;
     }
 
     public int bare(int field) {
-        if (!isField(field)) {
-            return NO_SUCH;
-        }
-        settle();
-        return harvest.firstZero(harvest.corn, field);
+        return isField(field) ? firstZeroNow(harvest.corn, field) : NO_SUCH;
     }
 
     public int kept() {
@@ -402,8 +362,7 @@ public final class RookHusting {
         if (!isField(field)) {
             return NO_SUCH;
         }
-        settle();
-        return state.told.corn[field] - harvest.corn[field * DAY_CELLS + state.told.days];
+        return state.told.corn[field] - cellNow(harvest.corn, field, state.told.days);
     }
 
     public int quiet(int day) {
@@ -451,11 +410,7 @@ public final class RookHusting {
     }
 
     public int flown(int day) {
-        if (!isEatingDay(day)) {
-            return NO_SUCH;
-        }
-        settle();
-        return harvest.sumOf(harvest.flown, day);
+        return isEatingDay(day) ? sumNow(harvest.flown, day) : NO_SUCH;
     }
 
     // ---- what would be best ----
@@ -520,9 +475,8 @@ public final class RookHusting {
         if (!isTold()) {
             return NO_SUCH;
         }
-        settle();
         int speech = NONE;
-        int left = harvest.sumOf(harvest.corn, state.told.days);
+        int left = sumNow(harvest.corn, state.told.days);
         for (int field = 0; field < state.told.fields; field++) {
             for (int day = 0; day < state.told.days; day++) {
                 trial.copyFrom(now);
@@ -541,9 +495,8 @@ public final class RookHusting {
         if (!isTold()) {
             return NO_SUCH;
         }
-        settle();
         int gap = NONE;
-        int left = harvest.sumOf(harvest.corn, state.told.days);
+        int left = sumNow(harvest.corn, state.told.days);
         for (int field = 0; field < state.told.fields; field++) {
             for (int other = field + 1; other < state.told.fields; other++) {
                 trial.copyFrom(now);
@@ -704,8 +657,7 @@ public final class RookHusting {
         }
         state.acts.add(Acts.SPEECH, field, day);
         forget();
-        settle();
-        return harvest.fear[field * DAY_CELLS + day];
+        return cellNow(harvest.fear, field, day);
     }
 
     public int undo() {
@@ -907,6 +859,26 @@ public final class RookHusting {
         state.acts.playOn(now, true);
         harvest.passDays(state.told, now, state.told.days);
         settled = true;
+    }
+
+    private int cellNow(int[] cells, int field, int day) {
+        settle();
+        return cells[field * DAY_CELLS + day];
+    }
+
+    private int sumNow(int[] cells, int day) {
+        settle();
+        return harvest.sumOf(cells, day);
+    }
+
+    private int mostNow(int[] cells, int day) {
+        settle();
+        return harvest.fieldOfMost(cells, day);
+    }
+
+    private int firstZeroNow(int[] cells, int field) {
+        settle();
+        return harvest.firstZero(cells, field);
     }
 
     private void learnPlain() {

@@ -37,7 +37,58 @@ public final class ModelTest {
         for (int seed = 0; seed < RUNS; seed++) {
             new ModelTest(1000000 + seed).runTexts();
         }
+        for (int seed = 0; seed < RUNS; seed++) {
+            new ModelTest(2000000 + seed).runElections();
+        }
+        for (int method = 0; method < new ModelTest(0).methods.size(); method++) {
+            for (int seed = 0; seed < 12; seed++) {
+                new ModelTest(3000000 + seed).askFirst(method);
+            }
+        }
         Check.finish();
+    }
+
+    /** Many MEN, few VOTERS: elections that one VOTER turns. */
+    private void runElections() throws Exception {
+        StringBuilder text = new StringBuilder("hundred days 1 law ").append(random.nextInt(4)).append(" odds 0;");
+        int men = 3 + random.nextInt(3);
+        text.append("man frights 1 tires 1;".repeat(men));
+        int voters = 2 + random.nextInt(6);
+        for (int v = 0; v < voters; v++) {
+            voter(text, men, random.nextInt(3) == 0 ? random.nextInt(men + 1) : men);
+        }
+        tell(text.toString());
+        for (String name : List.of("plain", "swings", "beats", "rings")) {
+            call(name);
+        }
+        for (int v = 0; v < voters; v++) {
+            call("gains", v);
+        }
+        for (int m = 0; m < men; m++) {
+            call("least", m);
+            call("over", m, random.nextInt(men));
+        }
+        for (int law = 0; law < 4; law++) {
+            int set = 1 + random.nextInt((1 << men) - 1);
+            call("elects", set, law);
+            call("votes", set, law, Integer.numberOfTrailingZeros(set));
+        }
+    }
+
+    /** One call right behind an act, when nothing else was asked. */
+    private void askFirst(int method) throws Exception {
+        Method m = methods.get(method);
+        tell(randomText());
+        call("row", 0, 0, 0);
+        call("speaks", 0, 1);
+        call("puts", random.nextInt(2), random.nextInt(3) - 1);
+        Object[] args = new Object[m.getParameterCount()];
+        for (int i = 0; i < args.length; i++) {
+            long v = m.getName().equals("gets") || m.getName().equals("rests") ? i % 2 : m.getName().equals("may") ? 0
+                    : randomNumber(m.getName(), i);
+            args[i] = m.getParameterTypes()[i] == long.class ? (Object) v : (Object) (int) v;
+        }
+        call(m.getName(), args);
     }
 
     private void run() throws Exception {
@@ -226,17 +277,21 @@ public final class ModelTest {
             text.append(random.nextInt(random.nextBoolean() ? 10 : 3)).append(';');
         }
         for (int v = 0; v < voters; v++) {
-            text.append("voter hats ").append(1 + random.nextInt(random.nextBoolean() ? 9 : 3));
-            List<Integer> row = new ArrayList<>();
-            for (int m = 0; m < men; m++) {
-                row.add(random.nextInt(row.size() + 1), m);
-            }
-            for (int m : row.subList(0, random.nextInt(men + 1))) {
-                text.append(' ').append(m);
-            }
-            text.append(';');
+            voter(text, men, random.nextInt(men + 1));
         }
         return text.length() > 700 ? "hundred days 3law 1odds 5;" : text.toString();
+    }
+
+    private void voter(StringBuilder text, int men, int wanted) {
+        text.append("voter hats ").append(1 + random.nextInt(random.nextBoolean() ? 9 : 3));
+        List<Integer> row = new ArrayList<>();
+        for (int m = 0; m < men; m++) {
+            row.add(random.nextInt(row.size() + 1), m);
+        }
+        for (int m : row.subList(0, wanted)) {
+            text.append(' ').append(m);
+        }
+        text.append(';');
     }
 
     private String spoil(String text) {

@@ -129,6 +129,9 @@ public final class PromisesTest {
         due("there is none", x.beats(), -2);
         due("no FIELD", x.field(0, 0), -2);
         due("no TAPE", x.count(9), 0);
+        for (int what = 0; what <= 8; what++) {
+            due("without a HUNDRED again count(" + what + ")", x.count(what), 0);
+        }
         RookHusting y = Check.told("hundred\ndays16law3odds10;field corn 0300rooks 40;");
         due("longest TOKENS", y.field(0, 0), 300);
         due("its days", y.count(0), 16);
@@ -149,6 +152,10 @@ public final class PromisesTest {
         isFault("  Hundred", 1, 2);
         isFault("hundre days", 1, 0);
         isFault("hundreds days", 1, 0);
+        isFault("gundred days 1 law 0 odds 0;", 1, 0);
+        isFault("hundree days 1 law 0 odds 0;", 1, 0);
+        isFault(HEAD + "fieldz corn 1 rooks 1;", 1, 28);
+        isFault(HEAD + "afield corn 1 rooks 1;", 1, 28);
         isFault("hundred", 1, 7);
         isFault("hundred  \n", 1, 10);
         isFault("hundred days 4;", 1, 14);
@@ -433,6 +440,10 @@ public final class PromisesTest {
         RookHusting z = Check.told("hundred days 1 law 0 odds 0; field corn 5 rooks 0; field corn 5 rooks 4;"
                 + "man frights 4 tires 1; man frights 4 tires 1;");
         all("two men do", new int[] {z.best(), z.put(0), z.put(1), z.ways(), z.fewest()}, 10, -1, 0, 4, 1);
+        // 0 and 1 leave 1 + 4, 1 and nobody 5 + 0, 1 and 0 5 + 0: the least row is not of the fewest
+        RookHusting v = Check.told("hundred days 2 law 0 odds 0; field corn 9 rooks 5; field corn 4 rooks 3;"
+                + "man frights 1 tires 0; man frights 3 tires 0;");
+        all("fewest of another row", new int[] {v.fewest(), v.best(), v.put(0), v.put(1), v.ways()}, 1, 5, 0, 1, 3);
         // a SPEECH by acts counts in each row
         x.speaks(0, 1);
         all("speeches as by acts", new int[] {x.best(), x.put(0), x.ways()}, 10, 1, 1);
@@ -545,6 +556,11 @@ public final class PromisesTest {
         RookHusting z = Check.told("hundred days 2 law 0 odds 0; field corn 30 rooks 9; field corn 30 rooks 9;"
                 + "man frights 9 tires 9; man frights 9 tires 9;");
         due("both", z.rests(0, 1), 8);
+        // speeches in FIELD 1 send 9 rooks more to FIELD 0
+        RookHusting w = Check.told("hundred days 3 law 0 odds 0; field corn 30 rooks 0; field corn 40 rooks 18; hedge 0 1;"
+                + "man frights 0 tires 0; man frights 9 tires 9;");
+        all("by the other one", new int[] {w.gets(0, 1, 0, 0), w.gets(0, 1, 0, 1), w.gets(0, 1, 1, 0), w.gets(0, 1, 1, 1),
+            w.gets(1, 0, 0, 0), w.gets(1, 0, 1, 0), w.rests(0, 1), w.rests(1, 0)}, 12, 3, 4, -5, 13, 23, 4, 2);
         due("neither", Check.told(HEAD + "field corn 9 rooks 1; field corn 9 rooks 1;").rests(0, 1), 1);
     }
 
@@ -719,6 +735,16 @@ public final class PromisesTest {
         due("an IMAGE stays as it is", x.count(7), 1);
         x.back(1);
         due("the other one", x.count(8), 4);
+        RookHusting z = Check.told(THREE);
+        z.puts(0, 1);
+        z.speaks(2, 3);
+        z.image(1);
+        z.anew();
+        z.speaks(1, 2);
+        z.puts(2, 0);
+        z.back(1);
+        all("acts as they were", new int[] {z.stands(0), z.stands(1), z.stands(2), z.fear(2, 3), z.undo(), z.stands(0),
+            z.fear(2, 3), z.undo(), z.stands(0)}, 1, -1, 2, 9, 1, 1, 0, 0, 0);
         RookHusting y = new RookHusting();
         due("image of no HUNDRED", y.image(2), 0);
         Check.feedText(y, ONE);
@@ -749,6 +775,12 @@ public final class PromisesTest {
         }
         x.row(0, 0, 3);
         due("all 0", x.may(0, 0), 0);
+        x.row(1, 0, 3);
+        x.write(1, 0, 9);
+        x.write(1, 1, 9);
+        due("no such FIELD", x.may(1, 0), -2);
+        x.row(1, 2, 3);
+        due("all 0 again", x.may(1, 0), 0);
     }
 
     /** Promise 73. */
