@@ -611,9 +611,10 @@ public final class PromisesTest {
         due("nobody again", x.puts(1, -1), -1);
         due("back into it", x.puts(1, 1), -1);
         all("none such", new int[] {x.puts(3, 0), x.puts(-1, 0), x.puts(0, 3), x.puts(0, -2)}, -2, -2, -2, -2);
-        while (x.count(7) < 30) {
+        for (int acts = x.count(7); acts < 30; acts++) {
             x.puts(0, 0);
         }
+        due("acts", x.count(7), 30);
         due("30 acts", x.puts(0, 0), -5);
         due("30 acts, no speech", x.speaks(0, 0), -5);
         due("-2 ahead of -5", x.puts(3, 0), -2);
