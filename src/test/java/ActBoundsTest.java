@@ -137,6 +137,9 @@ public final class ActBoundsTest {
     private static void rateFromNowOn() {
         Run.told("Promise 67: from now on", THREE).due("rate(0, 10) fear(0, 0) fear(0, 4) all(1) tired(0)", 6, 10, 2, 99, 5)
                 .due("puts(1, 0) undo() anew() man(0, 0) fear(0, 0) rate(0, 10)", 1, 0, 0, 10, 10, 10);
+        // 0 leaves 4, and with frights 5 all; 1, who tires, leaves 5
+        Run.told("Promise 67: what was asked ahead of it", ONE).due("fear(0, 0) all(2) best() put(0) tired(0)", 2, 4, 5, 1, -1)
+                .due("rate(0, 5) fear(0, 0) all(2) best() put(0) tired(0)", 2, 5, 10, 10, 0, -1);
         Run.told("Promise 67: till another HUNDRED", ONE).after("rate(0, 9)").feed(ONE).due("hundred() man(0, 0)", 4, 2);
     }
 

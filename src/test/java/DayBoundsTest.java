@@ -17,6 +17,7 @@ public final class DayBoundsTest {
         stayWithoutHedge();
         leastFear();
         twoHundredRooks();
+        mostOnTheLastDay();
         noWind();
         oneDay();
         sixteenDays();
@@ -25,6 +26,7 @@ public final class DayBoundsTest {
         firstOfSeveral();
         shoulderAndBare();
         keptWorstPeace();
+        sums();
         tired();
         guards();
         Check.finish();
@@ -128,6 +130,10 @@ public final class DayBoundsTest {
                 + "hedge 3 0;hedge 0 2;hedge 1 0;"
                 + "man frights 3 tires 0;man frights 2 tires 1;man frights 1 tires 0;man frights 1 tires 1;")
                 .due("flies(0, 0) flies(0, 1) flies(0, 2)", 2, 3, 1);
+        // FIELDS 1, 2 have FEAR 9, 5 on DAY 0, 6, 5 on DAY 1, 3, 5 on DAY 2, 0, 5 on DAY 3
+        Run.told("Promise 27: the least FEAR of another DAY", head(4) + "field corn 9 rooks 40;field corn 9 rooks 0;"
+                + "field corn 9 rooks 0;hedge 0 1;hedge 0 2;man frights 1 tires 0;man frights 9 tires 3;man frights 5 tires 0;")
+                .due("flies(0, 0) flies(0, 1) flies(0, 2) flies(0, 3)", 2, 2, 1, 1);
         // 0 is of less FEAR than 1, but not joined to 2
         Run.told("Promise 27: joined by a HEDGE", head(1) + "field corn 9 rooks 0;field corn 9 rooks 0;field corn 9 rooks 3;"
                 + "hedge 1 2;man frights 0 tires 0;man frights 9 tires 0;man frights 3 tires 0;").due("flies(2, 0)", 1);
@@ -141,6 +147,11 @@ public final class DayBoundsTest {
                 .due("rooks(0, 1) rooks(1, 1) rooks(4, 1) most(0) flown(0) flown(1)", 200, 0, 0, 200, 160, 0)
                 .due("eaten(0, 0) eaten(0, 1) corn(0, 2) corn(4, 2) all(2) all(0) black(1) eats(0)",
                         40, 200, 60, 300, 1260, 1500, 0, 240);
+    }
+
+    private static void mostOnTheLastDay() {
+        Run.told("Promise 43: on any DAY, the last one too", head(1) + "field corn 0 rooks 1;field corn 0 rooks 4;hedge 0 1;"
+                + "man frights 0 tires 0;man frights 4 tires 0;").due("most(0) most(1) rooks(0, 1) rooks(1, 1)", 5, 4, 5, 0);
     }
 
     private static void noWind() {
@@ -215,10 +226,27 @@ public final class DayBoundsTest {
         Run.told("Promise 41: one behind the other, the last DAYS", head(5) + "field corn 1 rooks 2;").due("peace() worst()", 4, 0);
         // 1 is eaten on DAY 2 alone
         Run.told("Promise 41: the longer of two", head(6) + "field corn 1 rooks 1;man frights 2 tires 1;").due("peace()", 3);
+        // FEAR 5 1: 4 on DAY 1, the 2 that are left on DAY 2
+        Run.told("Promise 33: the DAY 1", head(4) + "field corn 6 rooks 5;man frights 5 tires 4;")
+                .due("eaten(0, 0) eaten(0, 1) eaten(0, 2) eaten(0, 3) worst()", 0, 4, 2, 0, 1);
         // FIELD 0 gives 2 on DAY 0, FIELD 1 3 on DAY 1 and 4 on DAY 2
         Run.told("Promise 33: in all FIELDS together", head(3) + "field corn 2 rooks 2;field corn 9 rooks 4;"
                 + "man frights 0 tires 0;man frights 5 tires 4;")
                 .due("eaten(1, 0) eaten(1, 1) eaten(1, 2) worst()", 0, 3, 4, 2);
+    }
+
+    private static void sums() {
+        // eaten 3 2 0 (then the corn is gone), 0 1 2 (FEAR 2 1 0), 0 0 0 on the DAYS
+        String text = head(3) + "field corn 5 rooks 3;field corn 9 rooks 2;field corn 4 rooks 0;man frights 0 tires 0;"
+                + "man frights 2 tires 1;";
+        Run.told("Promise 28: on DAYS 0 to the last", text).due("all(0) all(1) all(2) all(3) all(4) all(-1)", 18, 15, 12, 10, -2, -2);
+        Run.told("Promise 39: in all", text).due("eats(0) eats(1) eats(2) eats(3) eats(-1)", 5, 3, 0, -2, -2);
+        Run.told("Promise 40: nothing is eaten, as bits", text).due("quiet(0) quiet(1) quiet(2) quiet(3) quiet(-1)", 6, 4, 5, -2, -2);
+        Run.told("Promise 42: something is eaten", text).due("bold(0) bold(1) bold(2) bold(3) bold(-1)", 2, 2, 0, -2, -2);
+        // 2 of 3 fly from FIELD 0, all 4 from FIELD 1; 5 in FIELD 2 have no HEDGE
+        Run.told("Promise 44: who stay do not fly", head(2) + "field corn 9 rooks 3;field corn 9 rooks 4;field corn 9 rooks 5;"
+                + "hedge 0 1;man frights 2 tires 0;man frights 9 tires 0;man frights 5 tires 0;")
+                .due("flown(0) flown(1) flown(2) flown(-1) rooks(0, 1) rooks(1, 1) rooks(2, 1)", 6, 4, -2, -2, 5, 2, 5);
     }
 
     private static void tired() {

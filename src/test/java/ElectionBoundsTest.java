@@ -158,6 +158,8 @@ public final class ElectionBoundsTest {
                 + "voter hats 1 4 0 1 2 3;";
         // each of five is over the two behind him: of ten sets of three five have one who is over both others
         Run.told("Promise 18: RINGS of five MEN", head(0) + MAN.repeat(5) + all).due("rings() beats()", 5, -1);
+        Run.told("Promises 17, 18: five MEN, seven VOTERS", head(0) + MAN.repeat(5) + all + "voter hats 9;".repeat(2))
+                .due("rings() beats() swings() over(4, 0) over(0, 4)", 5, -1, 1, 4, 1);
         Run.told("Promise 18: a RING one way", head(0) + MAN.repeat(3) + "voter hats 1 0 1 2;voter hats 1 1 2 0;voter hats 1 2 0 1;")
                 .due("rings()", 1);
         Run.told("Promise 18: a RING the other way", head(0) + MAN.repeat(3)
@@ -205,6 +207,13 @@ public final class ElectionBoundsTest {
         Run.told("Promise 20: by a ROW with one whom he does not want", head(2) + MAN.repeat(3)
                 + "voter hats 2 0 1;voter hats 2 2 0;voter hats 3 1;voter hats 1 1;")
                 .due("elects(7, 2) gains(0) gains(1) gains(2) gains(3) plain()", 0, 0, 0, 0, 1, 8);
+        // LAW 0: of 2, 3, 1 hats 1 is elected; with a hat more 0 is the first of two
+        Run.told("Promise 20: by a ROW with man 0", head(0) + MAN.repeat(3) + "voter hats 2 0;voter hats 3 1;voter hats 1 2 0 1;")
+                .due("elects(7, 0) gains(2) plain()", 1, 1, 4);
+        // LAW 2, by ROWS as told: 0, 4, 1, 3 go; if the first says 4, 3, then 0, 2, 4, 1 go; if 4 alone, 3 goes ahead of 1
+        Run.told("Promise 20: by a ROW of two", head(2) + MAN.repeat(5)
+                + "voter hats 1 3 4 2 1;voter hats 2 3 4 1 2 0;voter hats 1 4 2;voter hats 1 1 0 2 3 4;voter hats 1 2 0 1 4;")
+                .due("elects(31, 2) gains(0)", 2, 1);
         // LAW 0: who is elected has 2 hats more, and he has 1
         Run.told("Promise 20: by none", head(0) + MAN.repeat(3) + "voter hats 3 0;voter hats 1 1 2;voter hats 1 2 1;")
                 .due("gains(1) gains(2) plain()", 0, 0, 0);
@@ -216,6 +225,9 @@ public final class ElectionBoundsTest {
         Run.told("Promise 21: who is as wanted as the first is not elected", head(0) + MAN.repeat(3)
                 + "voter hats 1 0;".repeat(3) + "voter hats 1 1 2;".repeat(2) + "voter hats 2 2;voter hats 1 1 2;")
                 .due("elects(7, 0) plain() gains(6) gains(5) gains(0)", 0, 0, 0, 0, 0);
+        // 0 has 3 hats, 1 and 2 have 2 each: 1's VOTER can say 2, and 2's can say 1
+        Run.told("Promise 21: two of them", head(0) + MAN.repeat(3) + "voter hats 3 0;voter hats 2 1 2;voter hats 2 2 1;")
+                .due("elects(7, 0) plain() gains(0) gains(1) gains(2)", 0, 6, 0, 1, 1);
         Run.told("Promise 21: the last VOTER has bit 6", head(0) + MAN.repeat(3)
                 + "voter hats 1 0;".repeat(3) + "voter hats 1 2;".repeat(3) + "voter hats 1 1 2;")
                 .due("elects(7, 0) plain() gains(6)", 0, 64, 1);
@@ -233,6 +245,11 @@ public final class ElectionBoundsTest {
         // he decides as the third, fourth or fifth of seven; the others share the rest
         Run.told("Promise 22: seven VOTERS", head(0) + "voter hats 3;" + "voter hats 1;".repeat(6))
                 .due("power(0, 0) power(0, 1) power(1, 0) power(1, 1) power(6, 0) power(6, 1) power(7, 0)", 3, 7, 2, 21, 2, 21, -2);
+        Run.told("Promise 22: more than half of seven VOTERS' hats", head(0) + "voter hats 9;" + "voter hats 1;".repeat(6))
+                .due("power(0, 0) power(0, 1) power(1, 0) power(6, 1)", 1, 1, 0, 1);
+        // he decides as the second, third or fourth of five: of 7 hats 4 are more than half
+        Run.told("Promise 22: five VOTERS", head(0) + "voter hats 3;" + "voter hats 1;".repeat(4))
+                .due("power(0, 0) power(0, 1) power(4, 0) power(4, 1)", 3, 5, 1, 10);
         Run.told("Promise 22: as many hats as there can be", head(0) + "voter hats 9;".repeat(7))
                 .due("power(6, 0) power(6, 1)", 1, 7);
     }

@@ -16,9 +16,11 @@ public final class PlanBoundsTest {
         speechFirst();
         gapBounds();
         gapFirst();
+        gapBesidesOthers();
         gapAtEightHedges();
         restBounds();
         restPairs();
+        byTheOthersChoice();
         getsBelowZero();
         Check.finish();
     }
@@ -164,6 +166,19 @@ public final class PlanBoundsTest {
                 + "man frights 0 tires 0;".repeat(4) + "man frights 2 tires 2;hedge 0 3;hedge 1 3;hedge 2 3;").due("gap()", 34);
     }
 
+    private static void gapBesidesOthers() {
+        // FIELD 0's rooks fly to FIELD 1 and eat there; FIELD 2 has more FEAR than FIELD 1
+        Run.told("Promise 53: the HEDGES that there are stay", head(2) + "field corn 9 rooks 2;field corn 9 rooks 0;"
+                + "field corn 0 rooks 0;hedge 0 1;man frights 2 tires 2;man frights 0 tires 0;man frights 1 tires 0;")
+                .due("all(2) gap()", 16, -1);
+        Run.told("Promise 53: the HEDGES of the other one stay", head(2) + "field corn 0 rooks 0;field corn 9 rooks 0;"
+                + "field corn 9 rooks 2;hedge 1 2;man frights 1 tires 0;man frights 0 tires 0;man frights 2 tires 2;")
+                .due("all(2) gap()", 16, -1);
+        // on DAY 0 2 eat in FIELD 1, 5 and 6 fly; on DAY 1 7 are in FIELD 1, one above FEAR; were FIELD 0 joined to itself, 5 would stay
+        Run.told("Promise 53: no HEDGE from a FIELD to itself", head(2) + "field corn 0 rooks 5;field corn 9 rooks 8;hedge 0 1;"
+                + "man frights 5 tires 0;man frights 6 tires 0;").due("all(1) all(2) gap()", 7, 6, -1);
+    }
+
     private static void gapAtEightHedges() {
         Run.told("Promise 53: besides eight HEDGES", head(2) + "field corn 9 rooks 2;field corn 0 rooks 0;field corn 0 rooks 0;"
                 + "hedge 1 2;".repeat(8) + "man frights 2 tires 2;").due("count(4) gap() count(4) hedges(0)", 8, 1, 8, 0);
@@ -194,6 +209,18 @@ public final class PlanBoundsTest {
                 .due("rests(0, 1) rests(1, 0)", 3, 5);
         Run.told("Promise 57: the first one or none, the other one does", head(2) + "field corn 30 rooks 8;field corn 30 rooks 9;"
                 + likes).due("rests(0, 1) rests(1, 0)", 12, 10);
+    }
+
+    private static void byTheOthersChoice() {
+        // speeches in FIELD 1 send 9 rooks more to FIELD 0
+        Run.told("Promises 57, 58: by the other one's choice", head(3) + "field corn 30 rooks 0;field corn 40 rooks 18;hedge 0 1;"
+                + "man frights 0 tires 0;man frights 9 tires 9;")
+                .due("gets(0, 1, 0, 0) gets(0, 1, 0, 1) gets(0, 1, 1, 0) gets(0, 1, 1, 1)", 12, 3, 4, -5)
+                .due("gets(1, 0, 0, 0) gets(1, 0, 0, 1) gets(1, 0, 1, 0) gets(1, 0, 1, 1)", 13, 13, 23, 23)
+                .due("rests(0, 1) rests(1, 0)", 4, 2);
+        // FIELD 0 gains 1 by a SPEECH if 1, who tires, is put there
+        Run.told("Promise 57: by who stands there now", head(2) + "field corn 30 rooks 9;field corn 30 rooks 9;"
+                + "man frights 9 tires 0;man frights 9 tires 9;").due("puts(1, -1) rests(0, 1) puts(0, 1) rests(0, 1)", 1, 1, 0, 2);
     }
 
     private static void getsBelowZero() {

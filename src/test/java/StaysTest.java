@@ -1,9 +1,11 @@
 import java.util.ArrayList;
 import java.util.List;
+import java.util.function.Supplier;
 
 /**
  * What stays: two objects are told and do the same, one of them gets a call more that is refused (or that asks alone); then all
- * that can be asked of both must be the same, what the SLOTS, the IMAGES and the TAPE have included.
+ * that can be asked of both must be the same, what the SLOTS, the IMAGES and the TAPE have included. And what does not stay: an
+ * object that was asked everything, and then changed, answers as one that is asked for the first time.
  */
 public final class StaysTest {
     private static final String TOLD = "hundred days 4 law 0 odds 3;field corn 50 rooks 10;field corn 30 rooks 4;"
@@ -16,6 +18,14 @@ public final class StaysTest {
     /** Image 2 has nothing; SLOT 3 has nothing. */
     private static final String SETUP = "rate(0, 8) image(0) puts(0, 1) speaks(0, 2) puts(2, 0) image(1) speaks(1, 1)"
             + "row(0, 0, 3) write(0, 1, 1) write(0, 2, 7) row(1, 1, 6) write(1, 4, 2) write(1, 5, 300) row(2, 0, 3) write(2, 0, 2)";
+
+    private static final String ASKED = "field(0, 0) hedges(0) man(0, 0) hats(0) wants(0, 0) votes(3, 1, 0) elects(3, 2) elected(0)"
+            + "stands(0) where(0) over(0, 1) beats() rings() least(1) gains(1) plain() power(0, 0) fear(0, 0) rooks(0, 1) corn(0, 1)"
+            + "eaten(0, 1) flies(0, 0) flies(0, 1) all(2) black(1) shoulder(0) bare(0) kept() worst() loved(0) shunned(0) swings()"
+            + "tired(0) guards() eats(0) quiet(0) quiet(1) peace() bold(0) bold(1) most(0) flown(0) flown(1) richest(0) best() put(0)"
+            + "put(1) ways() fewest() by(0) by(3) law() speech() gap() may(0, 0) ask(0, 0) leaves(0, 0) may(0, 1) rests(0, 1)"
+            + "gets(0, 1, 0, 1) gets(0, 1, 1, 1) chance(0, 1, 9, 0) mean(1, 1) mean(0, 0) drawn(7, 0) drawn(7, 1) luck(7, 20, 0)"
+            + "count(0) count(7) fault(0) fault(1)";
 
     private static int compared;
 
@@ -30,6 +40,8 @@ public final class StaysTest {
         refusedStores();
         refusedByABadText();
         askedAlone();
+        askedBehindAChange();
+        askedBehindAnotherHundred();
         System.out.println(compared + " pairs of objects");
         Check.finish();
     }
@@ -119,7 +131,7 @@ public final class StaysTest {
                 + "shunned(3) tired(3) eats(3) quiet(4) bold(3) most(3) flown(4) richest(5) put(3) by(4) may(4, 0) may(0, 3)"
                 + "may(1, 0) ask(4, 0) leaves(0, 3) rests(0, 0) rests(0, 3) chance(3, 0, 0, 0) chance(0, 4, 0, 0) chance(0, 0, 301, 0)"
                 + "mean(4, 0) drawn(-1, 0) drawn(0, 2) luck(0, 0, 0) luck(0, 21, 0) luck(0, 1, 3)";
-        for (String call : beyond.split("(?<=\\)) ?")) {
+        for (String call : calls(beyond)) {
             stays("Promises 6 to 66", call, -2);
         }
         stays("Promise 10", "wants(0, 2)", -1);
@@ -195,15 +207,44 @@ public final class StaysTest {
     }
 
     private static void askedAlone() {
-        String asked = "field(0, 0) hedges(0) man(0, 0) hats(0) wants(0, 0) votes(7, 1, 0) elects(7, 2) elected(0) stands(0) where(0)"
-                + "over(0, 1) beats() rings() least(1) gains(1) plain() power(0, 0) fear(0, 0) rooks(0, 1) corn(0, 1) eaten(0, 1)"
-                + "flies(0, 1) all(2) black(1) shoulder(0) bare(0) kept() worst() loved(0) shunned(0) swings() tired(0) guards()"
-                + "eats(0) quiet(0) peace() bold(0) most(0) flown(0) richest(0) best() put(0) ways() fewest() by(3) law() speech()"
-                + "gap() may(0, 0) ask(0, 0) leaves(0, 0) may(0, 2) rests(0, 1) gets(0, 1, 1, 1) chance(0, 3, 40, 0) mean(3, 1)"
-                + "drawn(7, 0) drawn(7, 1) luck(7, 20, 0) count(0) fault(0) fault(1)";
-        for (String call : asked.split("(?<=\\)) ?")) {
+        for (String call : calls(ASKED)) {
             String label = "Promises 5 to 66, asked alone: " + call;
             same(label, begin(label, TAPE).after(call), begin(label, TAPE));
         }
+    }
+
+    private static void askedBehindAChange() {
+        for (String change : new String[] {"puts(0, 2)", "puts(1, -1)", "speaks(0, 1)", "speaks(1, 3)", "undo()", "anew()",
+            "rate(0, 1)", "rate(1, 30)", "anew() rate(1, 30)", "back(0)", "back(1)", "hundred()", "end(0) hundred()", "row(0, 0, 0)"}) {
+            String label = "Promises 4, 61 to 72, asked behind " + change;
+            asForTheFirstTime(label, begin(label, TAPE).after(ASKED).after(change), () -> begin(label, TAPE).after(change));
+            String later = label + ", without acts";
+            asForTheFirstTime(later, begin(later, TAPE).after("anew()").after(ASKED).after(change),
+                    () -> begin(later, TAPE).after("anew()").after(change));
+        }
+    }
+
+    /** A longer HUNDRED, of more of all, leaves nothing to a shorter one. */
+    private static void askedBehindAnotherHundred() {
+        String label = "Promise 4: in place of another";
+        String longer = "hundred days 16 law 3 odds 7;" + "field corn 300 rooks 40;".repeat(5)
+                + "hedge 0 1;hedge 1 2;hedge 2 3;hedge 3 4;hedge 4 0;" + "man frights 9 tires 2;".repeat(5)
+                + "voter hats 9 4 3 2 1 0;voter hats 8 0 4;voter hats 2 1 4;";
+        for (String text : new String[] {OTHER, TOLD, "hundred days 1 law 0 odds 0;", OTHER + "voter hats 3;",
+            "hundred days 2 law 0 odds 9;field corn 9 rooks 9;field corn 9 rooks 0;"}) {
+            asForTheFirstTime(label, Run.told(label, longer).after("row(0, 0, 0)").after(ASKED).feed(text).after("hundred()"),
+                    () -> Run.told(label, text).after("row(0, 0, 0)"));
+        }
+    }
+
+    /** Each question has the answer that a fresh object gives which is asked nothing else. */
+    private static void asForTheFirstTime(String label, Run worn, Supplier<Run> fresh) {
+        for (String call : calls(ASKED)) {
+            Check.due(label + ": " + call, worn.ask(call), fresh.get().ask(call));
+        }
+    }
+
+    private static String[] calls(String written) {
+        return written.split("(?<=\\)) ?");
     }
 }

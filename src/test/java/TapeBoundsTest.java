@@ -63,6 +63,10 @@ public final class TapeBoundsTest {
         new Run("Promise 2: a number of many digits on a TAPE of 700 bytes")
                 .feed("hundred days " + "0".repeat(673) + "9 law 3 odds 0").due("count(9)", 700)
                 .due("hundred() fault(0) fault(1) end(699) hundred() fault(1)", -4, 1, 700, 699, -4, 699);
+        new Run("Promise 2: a word at the end of 700 bytes").feed(HEAD + " ".repeat(667) + "field")
+                .due("count(9) hundred() fault(0) fault(1)", 700, -4, 1, 700);
+        new Run("Promise 2: no word at the end of 700 bytes").feed(HEAD + " ".repeat(667) + "ieldz")
+                .due("count(9) hundred() fault(0) fault(1)", 700, -4, 1, 695);
         new Run("Promise 2: zeros ahead of a number, 700 bytes").feed("hundred days " + "0".repeat(672) + "9 law 3 odds 7;")
                 .due("count(9) hundred() count(0) count(1) count(2)", 700, 1, 9, 3, 7);
         new Run("Promise 2: digits alone, 700 bytes").feed("hundred days " + "9".repeat(687))

@@ -27,6 +27,7 @@ public final class TextBoundsTest {
         blanks();
         noTokens();
         longestTokens();
+        otherWords();
         cantStandThere();
         firstByItsPlace();
         leastOfOnePlace();
@@ -218,12 +219,32 @@ public final class TextBoundsTest {
         bad(label, "hundred |day s 1 law 0 odds 0;", 1);
         bad(label, "hundred |dayss 1 law 0 odds 0;", 1);
         bad(label, "|hundre d days 1 law 0 odds 0;", 1);
+        bad(label, "|hundredz days 1 law 0 odds 0;", 1);
+        bad(label, "|ahundred days 1 law 0 odds 0;", 1);
+        bad(label, "hundred |zdays 1 law 0 odds 0;", 1);
         bad(label, HEAD + "|fields corn 1 rooks 1;", 1);
         bad(label, HEAD + "|fiel corn 1 rooks 1;", 1);
         bad(label, HEAD + "|men frights 1 tires 1;", 1);
         bad(label, HEAD + MAN.repeat(2) + "voter hats 1 |10;", 2);
         good(label, HEAD + MAN.repeat(2) + "voter hats 1 1 0;").due("wants(0, 0) wants(0, 1)", 1, 0);
         bad(label, HEAD + FIELD.repeat(2) + "hedge 01|;", 1);
+    }
+
+    /** Each word with one letter changed, the first, the last or one between. */
+    private static void otherWords() {
+        String text = "hundred days 4 law 0 odds 0;field corn 1 rooks 1;field corn 1 rooks 1;hedge 0 1;"
+                + "man frights 1 tires 1;voter hats 1 0;";
+        int start = -1;
+        for (int n = 0; n < text.length(); n++) {
+            if (!Character.isLetter(text.charAt(n))) {
+                start = -1;
+                continue;
+            }
+            start = start < 0 ? n : start;
+            char other = text.charAt(n) == 'a' ? 'b' : 'a';
+            bad("Promise 5, FAULT 1: another word", text.substring(0, start) + "|" + text.substring(start, n) + other
+                    + text.substring(n + 1), 1);
+        }
     }
 
     /** At each place of each LINE another TOKEN. */
@@ -289,7 +310,8 @@ public final class TextBoundsTest {
                 wordStart = n - 1;
             }
             lines += last == ';' ? 1 : 0;
-            Run x = new Run("Promise 5, FAULTS: the end's place, " + n + " bytes").feed(text.substring(0, n));
+            // what was cut off is behind the end
+            Run x = new Run("Promise 5, FAULTS: the end's place, " + n + " bytes").feed(text).due("end(" + n + ")", n);
             String begun = text.substring(0, n).strip();
             boolean cut = inWord && n < text.length() && Character.isLetter(text.charAt(n));
             if (begun.isEmpty() || begun.endsWith(";")) {
@@ -302,7 +324,7 @@ public final class TextBoundsTest {
 
     private static void noLines() {
         for (String text : new String[] {"", " ", "\n", " \n \n", " ".repeat(700)}) {
-            Run.told("Promise 4: 0: there is none then", HEAD + FIELD + MAN + VOTER).after("speaks(0, 0) puts(0, 0)").feed(text)
+            Run.told("Promise 4: 0: there is none then", "hundred days 9 law 3 odds 9;" + FIELD + MAN + VOTER).after("speaks(0, 0) puts(0, 0)").feed(text)
                     .due("hundred() fault(0) fault(1)", 0, 0, -1)
                     .each(0, "count(0) count(1) count(2) count(3) count(4) count(5) count(6) count(7) count(8) count(9)")
                     .each(-2, "beats() plain() kept() best() law() undo() anew() all(0) field(0, 0) man(0, 0) hats(0) drawn(1, 0)"
